@@ -1,0 +1,43 @@
+/** Counts and prints the answers that are not the ones that are due. */
+final class Due {
+  private int wrong = 0;
+
+  void answer(String call, long got, long want) {
+    if (got != want) {
+      wrong++;
+      System.out.println(call + " answered " + got + ", due is " + want);
+    }
+  }
+
+  boolean isClean() {
+    return wrong == 0;
+  }
+
+  /** Begins e, asks for all its results, and looks at how it ends and what that cost. */
+  void run(String what, GoalSearch g, int e, int fuel, int end, int cost, int... results) {
+    answer(what + ": begin", g.begin(e, fuel), 0);
+    for (int i = 0; i < results.length; i++) {
+      answer(what + ": next " + i, g.next(), 1);
+      answer(what + ": value " + i, g.value(), results[i]);
+    }
+    answer(what + ": last next", g.next(), end);
+    answer(what + ": next after the end", g.next(), end);
+    answer(what + ": cost", g.cost(), cost);
+    answer(what + ": value at the end", g.value(), results.length == 0 ? 0 : results[results.length - 1]);
+  }
+
+  void written(String what, GoalSearch g, int... values) {
+    answer(what + ": writes", g.writes(), values.length);
+    for (int i = 0; i < values.length; i++) {
+      answer(what + ": written " + i, g.written(i), values[i]);
+    }
+    answer(what + ": written after the last", g.written(values.length), 4294967296L);
+  }
+
+  void end() {
+    System.out.println(wrong == 0 ? "all answers are as due" : wrong + " answers are not as due");
+    if (wrong != 0) {
+      System.exit(1);
+    }
+  }
+}
