@@ -19,12 +19,12 @@ public final class GoalSearch {
     private static final int MOST_SKIPPED = 100;
     private static final long NOT_WRITTEN = 4294967296L;
 
-    private final Forest forest;
     private final Search search;
+    private final Forest forest;
 
     public GoalSearch() {
-        forest = new Forest();
-        search = new Search(forest);
+        search = new Search();
+        forest = search.forest;
     }
 
     public int leaf(int kind, int v) {
@@ -256,7 +256,7 @@ public final class GoalSearch {
 
         private static final int MOST_WRITES = 32;
 
-        /** All but the first turn of a loop cost fuel, so no loop gets near this. */
+        /** A turn after a loop's first costs fuel or is its last, so no loop gets near this. */
         private static final int MOST_TURNS = 1000000;
 
         private static final int FRESH = 0;
@@ -266,7 +266,7 @@ public final class GoalSearch {
         private static final int IN_VALUES = 4;
         private static final int DONE = 5;
 
-        private final Forest forest;
+        final Forest forest = new Forest();
         /** Which part each expression would go on with when it is asked. */
         private final int[] stage = new int[Forest.MOST];
         private final int[] result = new int[Forest.MOST];
@@ -281,10 +281,6 @@ public final class GoalSearch {
         private int fuel = 0;
         private int begun = 0;
         private int lastAnswer = NOTHING_BEGUN;
-
-        Search(Forest forest) {
-            this.forest = forest;
-        }
 
         void open(int e, int givenFuel) {
             start(e);
@@ -345,9 +341,8 @@ public final class GoalSearch {
                 case Forest.LIMIT:
                     return askLimit(e);
                 case Forest.EVERY:
-                    return askEvery(e);
                 case Forest.WHILE:
-                    return askWhile(e);
+                    return askEveryOrWhile(e);
                 case Forest.THEN:
                     return askThen(e);
                 case Forest.TO:
@@ -535,29 +530,16 @@ public final class GoalSearch {
             if (stage[e] == FRESH) {
                 start(y);
             }
-            stage[e] = IN_Y;
             int answer = ask(y);
             counter[e] = result[y];
             return answer;
         }
 
-        private int askEvery(int e) {
+        /** Both try y after each result of x; EVERY then asks x on, WHILE starts it anew. */
+        private int askEveryOrWhile(int e) {
+            boolean startsAnew = forest.kind[e] == Forest.WHILE;
             for (int turn = 0; turn < MOST_TURNS; turn++) {
-                int answer = askX(e);
-                if (answer != RESULT) {
-                    return answer;
-                }
-                answer = tryOnce(forest.partY[e]);
-                if (answer < FAILED) {
-                    return answer;
-                }
-            }
-            return FAILED;
-        }
-
-        private int askWhile(int e) {
-            for (int turn = 0; turn < MOST_TURNS; turn++) {
-                int answer = tryOnce(forest.partX[e]);
+                int answer = startsAnew ? tryOnce(forest.partX[e]) : askX(e);
                 if (answer != RESULT) {
                     return answer;
                 }
