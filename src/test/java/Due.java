@@ -1,3 +1,6 @@
+import java.util.function.Supplier;
+import java.util.function.ToLongFunction;
+
 /** Counts and prints the answers that are not the ones that are due. */
 final class Due {
   private int wrong = 0;
@@ -6,6 +9,13 @@ final class Due {
     if (got != want) {
       wrong++;
       System.out.println(call + " answered " + got + ", due is " + want);
+    }
+  }
+
+  private void same(String what, String got, String want) {
+    if (!got.equals(want)) {
+      wrong++;
+      System.out.println(what + "\n  is     " + got + "\n  due is " + want);
     }
   }
 
@@ -32,6 +42,18 @@ final class Due {
       answer(what + ": written " + i, g.written(i), values[i]);
     }
     answer(what + ": written after the last", g.written(values.length), 4294967296L);
+  }
+
+  /**
+   * Of two objects in the same state one gets a call that must change nothing: they stay alike, also
+   * when they are asked on, so that a change that cannot be seen at once is found, too.
+   */
+  void noChange(String what, Supplier<GoalSearch> scene, ToLongFunction<GoalSearch> call, long want) {
+    GoalSearch called = scene.get();
+    GoalSearch plain = scene.get();
+    answer(what, call.applyAsLong(called), want);
+    same(what + ": what is seen after it", Look.at(called), Look.at(plain));
+    same(what + ": what comes after it", Look.askingOn(called), Look.askingOn(plain));
   }
 
   void end() {

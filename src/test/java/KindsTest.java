@@ -13,14 +13,12 @@ public final class KindsTest {
     either();
     and();
     arithmetic();
-    arithmeticBeyondInts();
     comparisons();
     limit();
     every();
     whilst();
     then();
     to();
-    toAtTheEdges();
     when();
     startedAnew();
     due.end();
@@ -120,21 +118,6 @@ public final class KindsTest {
     due.run("the second sees what the first assigned", m.g, seen, 99, 0, 2, 6);
   }
 
-  private static void arithmeticBeyondInts() {
-    Maker m = new Maker();
-    due.run("greatest sum", m.g, m.plus(m.num(MAX), m.num(0)), 9, 0, 2, MAX);
-    due.run("sum too great", m.g, m.plus(m.num(MAX), m.num(1)), 9, -4, 2);
-    due.run("sum too small", m.g, m.plus(m.num(MIN), m.num(-1)), 9, -4, 2);
-    due.run("least difference", m.g, m.minus(m.num(-1), m.num(MAX)), 9, 0, 2, MIN);
-    due.run("difference too great", m.g, m.minus(m.num(0), m.num(MIN)), 9, -4, 2);
-    due.run("difference too small", m.g, m.minus(m.num(-2), m.num(MAX)), 9, -4, 2);
-    due.run("least product", m.g, m.times(m.num(65536), m.num(-32768)), 9, 0, 2, MIN);
-    due.run("product too great", m.g, m.times(m.num(65536), m.num(32768)), 9, -4, 2);
-    due.run("product that would wrap to 0", m.g, m.times(m.num(65536), m.num(65536)), 9, -4, 2);
-    due.run("product of the least", m.g, m.times(m.num(MIN), m.num(MIN)), 9, -4, 2);
-    due.run("least turned about", m.g, m.times(m.num(MIN), m.num(-1)), 9, -4, 2);
-  }
-
   private static void comparisons() {
     Maker m = new Maker();
     due.run("less", m.g, m.less(m.range(1, 3, 1), m.either(m.num(2), m.num(3))), 99, 0, 12, 2, 3, 3);
@@ -208,25 +191,6 @@ public final class KindsTest {
     int nested = m.to(m.either(m.num(1), m.num(2)), m.either(m.num(2), m.num(3)), m.either(m.num(1), m.num(2)));
     due.run("to over all", m.g, nested, 99, 0, 2 + 4 + 8 + 13,
         1, 2, 1, 1, 2, 3, 1, 3, 2, 2, 2, 3, 2);
-  }
-
-  private static void toAtTheEdges() {
-    Maker m = new Maker();
-    due.run("to the greatest", m.g, m.range(MAX - 1, MAX, 1), 99, 0, 5, MAX - 1, MAX);
-    due.run("to the least", m.g, m.range(MIN + 1, MIN, -1), 99, 0, 5, MIN + 1, MIN);
-    due.run("to with the greatest step", m.g, m.range(MIN, MAX, MAX), 99, 0, 6, MIN, -1, MAX - 1);
-    due.run("to with the least step", m.g, m.range(MAX, MIN, MIN), 99, 0, 5, MAX, -1);
-    due.run("to past the greatest, then the next", m.g,
-        m.to(m.num(MAX), m.num(MAX), m.either(m.num(MAX), m.num(1))), 99, 0, 6, MAX, MAX);
-    int zeroLater = m.to(m.num(1), m.num(1), m.either(m.num(1), m.num(0)));
-    due.run("to with step 0 later", m.g, zeroLater, 99, -3, 5, 1);
-    int failing = m.to(m.range(1, 2, 1), m.none(), m.write(m.num(1)));
-    due.run("to with no end at all", m.g, failing, 99, 0, 9);
-    due.written("to with no end at all", m.g);
-    int noStep = m.to(m.num(1), m.either(m.num(4), m.num(5)), m.none());
-    due.run("to with no step at all", m.g, noStep, 99, 0, 7);
-    int changed = m.to(m.var(0), m.assign(0, m.num(2)), m.assign(0, m.num(1)));
-    due.run("to keeps what it was given", m.g, changed, 99, 0, 6, 0, 1, 2);
   }
 
   private static void when() {

@@ -51,12 +51,13 @@ public final class ModelTest {
   }
 
   private int expression() {
-    if (random.nextInt(30) == 0 || g.expressions() == 0) {
+    if (random.nextInt(30) == 0 || model.expressions() == 0) {
       return small();
     }
-    int x = random.nextInt(g.expressions());
+    // The model is asked, so that the program gets no more calls than the document speaks of.
+    int x = random.nextInt(model.expressions());
     for (int i = 0; i < 20 && model.about(x) < 32; i++) {
-      x = random.nextInt(g.expressions());
+      x = random.nextInt(model.expressions());
     }
     return x;
   }
