@@ -77,11 +77,12 @@ public final class BinaryTest {
   }
 
   private static void depthTwelve() {
-    for (int part = 23; part <= 24; part++) {
-      GoalSearch g = Scenes.deep();
-      due.answer("binary of depth 12", part == 23 ? g.binary(0, 22, part) : g.binary(0, part, 22), 26);
-      due.answer("about it", g.about(26), 44);
-    }
+    GoalSearch left = Scenes.deep();
+    due.answer("binary of depth 12 on the left", left.binary(0, 22, 23), 26);
+    due.answer("about it", left.about(26), 44);
+    GoalSearch right = Scenes.deep();
+    due.answer("binary of depth 12 on the right", right.binary(0, 23, 22), 26);
+    due.answer("about it", right.about(26), 44);
     due.noChange("binary of depth 13 on the left", Scenes::deep, g -> g.binary(0, 11, 23), -5);
     due.noChange("binary of depth 13 on the right", Scenes::deep, g -> g.binary(0, 23, 11), -5);
   }
