@@ -3,7 +3,26 @@ import java.util.function.ToLongFunction;
 
 /** Counts and prints the answers that are not the ones that are due. */
 final class Due {
+  private static final long LONGEST_MILLIS = 300000;
+
   private int wrong = 0;
+
+  /** A call that does not end must make its test fail, not wait for ever. */
+  Due() {
+    Thread watch = new Thread(Due::stopAfterTheLongest);
+    watch.setDaemon(true);
+    watch.start();
+  }
+
+  private static void stopAfterTheLongest() {
+    try {
+      Thread.sleep(LONGEST_MILLIS);
+    } catch (InterruptedException e) {
+      return;
+    }
+    System.out.println("some call does not end");
+    Runtime.getRuntime().halt(1);
+  }
 
   void answer(String call, long got, long want) {
     if (got != want) {

@@ -20,7 +20,6 @@ public final class KindsTest {
     then();
     to();
     when();
-    startedAnew();
     due.end();
   }
 
@@ -202,42 +201,5 @@ public final class KindsTest {
     due.written("if not", m.g);
     due.run("if so, but it fails", m.g, m.when(m.num(1), m.none(), m.num(4)), 99, 0, 3);
     due.run("if in error", m.g, m.when(m.range(1, 1, 0), m.num(2), m.num(4)), 99, -3, 3);
-  }
-
-  /** Each kind is the inner part of an AND, and starts from its beginning for each outer result. */
-  private static void startedAnew() {
-    twice("number", 1, m -> m.num(4), 4);
-    twice("assign", 2, m -> m.assign(0, m.either(m.num(4), m.num(5))), 4, 5);
-    twice("not", 2, m -> m.not(m.none()), 0);
-    twice("again", 3, m -> m.limit(m.again(m.num(4)), m.num(2)), 4, 4);
-    twice("either", 2, m -> m.either(m.num(4), m.num(5)), 4, 5);
-    twice("plus", 2, m -> m.plus(m.num(4), m.num(5)), 9);
-    twice("limit", 2, m -> m.limit(m.either(m.num(4), m.num(5)), m.num(1)), 4);
-    twice("then", 3, m -> m.then(m.num(3), m.either(m.num(4), m.num(5))), 4, 5);
-    twice("to", 6, m -> m.range(4, 6, 1), 4, 5, 6);
-    twice("if", 3, m -> m.when(m.num(1), m.either(m.num(4), m.num(5)), m.num(6)), 4, 5);
-
-    Maker m = new Maker();
-    int tried = m.whilst(m.less(m.var(0), m.num(9)), m.assign(0, m.range(9, 12, 1)));
-    int cut = m.every(m.num(1), m.write(m.range(5, 7, 1)));
-    due.run("a part that was left in the middle", m.g, m.and(m.either(m.num(1), m.num(2)), m.then(cut, tried)),
-        99, 0, 22);
-    due.written("a part that was left in the middle", m.g, 5, 5);
-  }
-
-  private interface Part {
-    int make(Maker m);
-  }
-
-  private static void twice(String what, int cost, Part part, int... results) {
-    Maker m = new Maker();
-    int e = m.and(m.either(m.num(1), m.num(2)), part.make(m));
-    m.g.begin(e, 500);
-    for (int i = 0; i < 2 * results.length; i++) {
-      due.answer(what + " started anew: next " + i, m.g.next(), 1);
-      due.answer(what + " started anew: value " + i, m.g.value(), results[i % results.length]);
-    }
-    due.answer(what + " started anew: end", m.g.next(), 0);
-    due.answer(what + " started anew: cost", m.g.cost(), 2 + 2 * cost);
   }
 }
